@@ -10,7 +10,6 @@ public final class ActionTest {
         setRandom();
         undo();
         undoOfEach();
-        fourteenStates();
         whatIsNoAction();
         Check.end();
     }
@@ -187,19 +186,6 @@ public final class ActionTest {
         for (int i = 7; i >= 0; i--) {
             Check.same("undo()", x.undo(), i);
             Check.same("the state behind undo() " + i, Check.state(x), states[i]);
-        }
-    }
-
-    private static void fourteenStates() {
-        for (int actions = 13; actions <= 40; actions++) {
-            GripInspector x = new GripInspector();
-            for (int i = 1; i <= actions; i++) x.setRandom(i);
-            int kept = Math.min(actions, 14);
-            for (int i = 1; i <= kept; i++) {
-                Check.same("undo()", x.undo(), kept - i);
-                Check.same("random()", x.random(), actions - i);
-            }
-            Check.fails("undo() of a forgotten one", x, Check.STATE, x::undo);
         }
     }
 

@@ -5,13 +5,11 @@ public final class ForecastTest {
 
     public static void main(String[] args) {
         ahead();
-        aheadOfWrongNumbers();
         happensByHand();
         happensAsSteps();
         bestLimitByHand();
         bestLimitAsSteps();
         emptyAfter();
-        emptyAfterManySteps();
         simulate();
         Check.end();
     }
@@ -38,28 +36,6 @@ public final class ForecastTest {
         Check.same("ahead(0, 6, 2) by hand", x.ahead(0, 6, 2), 6);
         Check.same("ahead(0, 5, 1) by hand", x.ahead(0, 5, 1), 1);
         Check.same("ahead(0, 5, 6) by hand", x.ahead(0, 5, 6), 2);
-    }
-
-    private static void aheadOfWrongNumbers() {
-        GripInspector x = Check.lift("L049950943g202h1");
-        Check.fails("ahead(2, 0, 0)", x, Check.INDEX, () -> x.ahead(2, 0, 0));
-        Check.fails("ahead(-1, 0, 0)", x, Check.INDEX, () -> x.ahead(-1, 0, 0));
-        Check.fails("ahead(12, -1, 9)", x, Check.INDEX, () -> x.ahead(12, -1, 9));
-        for (int m : new int[] {-1, 100, Integer.MAX_VALUE, Integer.MIN_VALUE}) {
-            Check.fails("ahead(0, " + m + ", 0)", x, Check.ARGUMENT, () -> x.ahead(0, m, 0));
-            Check.fails("simulate(0, " + m + ")", x, Check.ARGUMENT, () -> x.simulate(0, m));
-            Check.fails("bestLimit(" + m + ")", x, Check.ARGUMENT, () -> x.bestLimit(m));
-            Check.fails("happens(" + m + ", 0)", x, Check.ARGUMENT, () -> x.happens(m, 0));
-        }
-        Check.fails("simulate(0, 0)", x, Check.ARGUMENT, () -> x.simulate(0, 0));
-        Check.fails("bestLimit(0)", x, Check.ARGUMENT, () -> x.bestLimit(0));
-        Check.fails("happens(0, 0)", x, Check.ARGUMENT, () -> x.happens(0, 0));
-        for (int what : new int[] {-1, 4, 8, Integer.MAX_VALUE, Integer.MIN_VALUE}) {
-            Check.fails("happens(1, " + what + ")", x, Check.ARGUMENT, () -> x.happens(1, what));
-        }
-        for (int what : new int[] {-1, 8, Integer.MAX_VALUE, Integer.MIN_VALUE}) {
-            Check.fails("ahead(0, 1, " + what + ")", x, Check.ARGUMENT, () -> x.ahead(0, 1, what));
-        }
     }
 
     private static String happenings(GripInspector x, int m) {
@@ -155,19 +131,6 @@ public final class ForecastTest {
         Check.same("emptyAfter() with one back in time", Check.lift("L200150429g019g010").emptyAfter(), Check.NONE);
         Check.same("emptyAfter() with a garage", Check.lift("L080120429g005h0").emptyAfter(), 9);
         Check.same("emptyAfter() with a short time", Check.lift("L080120421g001g003").emptyAfter(), Check.NONE);
-    }
-
-    /** With the slip limit 50 only cycles count: 0 is due at 10 * 15 steps, one slot on is one step more or less. */
-    private static void emptyAfterManySteps() {
-        Check.same("emptyAfter() of 150", Check.lift("L151050933g000").emptyAfter(), 150);
-        GripInspector x = Check.lift("L151050933g001");
-        Check.same("emptyAfter() of 136", x.emptyAfter(), 136);
-        x.setLimit(0, 11);
-        Check.same("emptyAfter() of 151", x.emptyAfter(), Check.NONE);
-        x.step(1);
-        Check.same("emptyAfter() of 150 again", x.emptyAfter(), 150);
-        Check.same("about(7)", x.about(7), 1);
-        Check.same("undo()", x.undo(), 1);
     }
 
     private static void simulate() {

@@ -91,29 +91,9 @@ public final class LineTest {
         for (int what : new int[] {-1, 3, Integer.MAX_VALUE, Integer.MIN_VALUE}) {
             Check.fails("groups(" + what + ")", x, Check.ARGUMENT, () -> x.groups(what));
         }
-        tensOfCycles();
         GripInspector y = Check.lift("L080120419g101g103h1");
         y.step(1);
         Check.same("groups(0..2) with workshop, line and garage", groupsOf(y), "1 3 0");
-    }
-
-    private static void tensOfCycles() {
-        GripInspector x = Check.lift("L049950943g000h0h0");
-        x.step(36);
-        Check.same("the cycles", x.grip(0, 1), 9);
-        Check.same("groups(0..2) with 9 cycles", groupsOf(x), "1 3 0");
-        x.step(4);
-        Check.same("groups(0..2) with 10 cycles", groupsOf(x), "2 2 1");
-        x.takeOff(0);
-        x.putOn(1, 0);
-        x.step(36);
-        Check.same("groups(0..2) with 10 and 9 cycles", groupsOf(x), "2 2 1");
-        x.step(4);
-        Check.same("groups(0..2) with 10 and 10 cycles", groupsOf(x), "2 2 0");
-        x.step(36);
-        Check.same("groups(0..2) with 10 and 19 cycles", groupsOf(x), "2 2 0");
-        x.step(4);
-        Check.same("groups(0..2) with 10, 20 and 0 cycles", groupsOf(x), "3 1 0");
     }
 
     private static String groupsOf(GripInspector x) {

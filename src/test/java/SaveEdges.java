@@ -34,6 +34,7 @@ final class SaveEdges {
             x.setLimit(0, 8);
             x.restore(0);
             Check.same("about(8) of the later save(0)", x.about(8), 7);
+            Check.changesNothing("save(0) of what it holds", SaveEdges::justSaved, y -> y.save(0));
         });
         Sentence.of(30, "Returns the clock.", () -> {
             GripInspector x = new GripInspector();
@@ -45,8 +46,6 @@ final class SaveEdges {
             Check.refusesBeside(0, 1, "save", Check::busy, Check.INDEX, (x, slot) -> x.save(slot));
             Check.refuses("save(2) of a new object", GripInspector::new, Check.INDEX, x -> x.save(2));
         });
-        Sentence.of(30, "the present state", () ->
-            Check.changesNothing("save(0) of what it holds", SaveEdges::justSaved, x -> x.save(0)));
     }
 
     /** It remembers states, and its save slot 0 holds the present one. */

@@ -64,6 +64,9 @@ final class ScriptEdges {
             Check.same("runScript(3, ..)", x.runScript(3, 30000_30100_70000L), Check.NONE);
             Check.same("runScript(3, ..) again", x.runScript(3, 30000_30100_70000L), Check.NONE);
             Check.same("runScript(1, 70002) then", x.runScript(1, 70002), Check.NONE);
+            script(10001_50100_10001L, Check.NONE);
+            script(10002_50101_10001L, Check.NONE);
+            script(10001_10001_50101L, Check.NONE);
             Check.changesNothing("runScript(3, ..)", Check::busy, y -> y.runScript(3, 30000_44009_10099L));
             Check.changesNothing("runScript(3, ..) that fails", Check::busy, y -> y.runScript(3, 30000_20206_99999L));
         });

@@ -9,7 +9,6 @@ public final class ScriptTest {
         otherGroups();
         order();
         aCopy();
-        wrongNumbers();
         Check.end();
     }
 
@@ -172,21 +171,5 @@ public final class ScriptTest {
         x.runScript(3, 20206_30000_43001L);
         Check.same("the state", Check.state(x), before);
         Check.same("undo()", x.undo(), 2);
-    }
-
-    private static void wrongNumbers() {
-        GripInspector x = mixed();
-        for (int n : new int[] {0, -1, 4, Integer.MAX_VALUE, Integer.MIN_VALUE}) {
-            Check.fails("runScript(" + n + ", 70002)", x, Check.ARGUMENT, () -> x.runScript(n, 70002));
-        }
-        for (int n = 1; n <= 3; n++) {
-            int commands = n;
-            long many = n == 1 ? 100000L : n == 2 ? 10000000000L : 1000000000000000L;
-            Check.fails("runScript(.., -1)", x, Check.ARGUMENT, () -> x.runScript(commands, -1));
-            Check.fails("runScript(.., smallest)", x, Check.ARGUMENT, () -> x.runScript(commands, Long.MIN_VALUE));
-            Check.fails("runScript(.., greatest)", x, Check.ARGUMENT, () -> x.runScript(commands, Long.MAX_VALUE));
-            Check.fails("runScript(" + n + ", " + many + ")", x, Check.ARGUMENT, () -> x.runScript(commands, many));
-            Check.same("runScript(" + n + ", " + (many - 1) + ")", x.runScript(n, many - 1), 0);
-        }
     }
 }

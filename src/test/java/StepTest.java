@@ -11,7 +11,6 @@ public final class StepTest {
         putting();
         puttingInTheSameStep();
         severalSteps();
-        wrongNumbers();
         Check.end();
     }
 
@@ -148,28 +147,6 @@ public final class StepTest {
         GripInspector last = Check.lift("L209950913g002g003g004g005g006g007g008g009g010g011g012h0");
         last.step(1);
         Check.same("the slot of the twelfth grip", last.grip(11, 6), 1);
-        fewestCycles();
-    }
-
-    /** Grips 0 to 3 come to the garage with 2, 1, 1 and 2 cycles. */
-    private static void fewestCycles() {
-        GripInspector x = Check.lift("L049950943g000g001g002g003");
-        x.setRandom(Check.stateBefore(1));
-        x.step(4);
-        x.takeOff(1);
-        x.takeOff(2);
-        x.step(4);
-        x.takeOff(0);
-        x.takeOff(3);
-        Check.same("the cycles", x.grip(0, 1) * 1000 + x.grip(1, 1) * 100 + x.grip(2, 1) * 10 + x.grip(3, 1), 2112);
-        x.step(1);
-        Check.same("report", Check.report(x), "ag b@1 cg dg");
-        x.scrap(1);
-        x.step(1);
-        Check.same("report", Check.report(x), "ag bx c@2 dg");
-        x.scrap(2);
-        x.step(1);
-        Check.same("report", Check.report(x), "a@3 bx cx dg");
     }
 
     private static void puttingInTheSameStep() {
@@ -196,14 +173,5 @@ public final class StepTest {
         z.step(99);
         Check.same("undo()", z.undo(), 0);
         Check.same("about(7)", z.about(7), 0);
-    }
-
-    private static void wrongNumbers() {
-        GripInspector x = Check.lift("L100520433g100g303h2h0g207");
-        x.step(1);
-        for (int m : new int[] {0, -1, 100, Integer.MAX_VALUE, Integer.MIN_VALUE}) {
-            Check.fails("step(" + m + ")", x, Check.ARGUMENT, () -> x.step(m));
-        }
-        Check.same("undo()", x.undo(), 0);
     }
 }

@@ -12,6 +12,7 @@ final class TextEdges {
         append();
         clearText();
         errorPosition();
+        firstThatIsNotAllowed();
         numbersOfTheHead();
         items();
         wrongItems();
@@ -140,6 +141,20 @@ final class TextEdges {
             lift(HEAD + "h0g000");
             error(HEAD + "g007g107", 17);
         });
+    }
+
+    private static void firstThatIsNotAllowed() {
+        Sentence.of("TEXTS", "The error position is the index of the first character that these rules do not allow at its place",
+            () -> {
+                String text = "L201050949g319h3g000h0g210";
+                for (int i = 0; i < text.length(); i++) {
+                    for (char c : new char[] {0, ' ', '/', ':', 'a', 'l', 'G', 'H', 128, 255}) {
+                        error(text.substring(0, i) + c + text.substring(i + 1), i);
+                        error(text.substring(0, i) + c, i);
+                    }
+                }
+                error(text + "L", text.length());
+            });
     }
 
     private static void numbersOfTheHead() {

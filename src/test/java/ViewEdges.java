@@ -259,6 +259,20 @@ final class ViewEdges {
         });
         Sentence.of("TEXTS", "its letter (a for grip 0, and so on)", () ->
             Check.same("the report", Check.report(longest()), "a@10 b@11 c@12 d@13 e@14 f@15 g@16 h@17 i@18 j@19 k@0 l@9"));
+        Sentence.of("TEXTS", "\"@\" and its slot as a number for one on the line, \"g\" for one in the garage, \"w\" and the "
+            + "steps that are left for one in the workshop, or \"x\" for one that is scrapped", () -> {
+            Check.same("the report of slots", Check.report(Check.lift("L201020423g019g010g009g000")), "a@19 b@10 c@9 d@0");
+            GripInspector x = Check.lift("L100150949g001h0g009");
+            x.scrap(2);
+            x.step(1);
+            Check.same("the report with a full time", Check.report(x), "aw9 b@1 cx");
+            x.takeOff(1);
+            x.setLimit(3, 1);
+            x.step(8);
+            Check.same("the report with the last step", Check.report(x), "aw1 b@2 cx");
+            x.takeOff(1);
+            Check.same("the report behind takeOff", Check.report(x), "aw1 bg cx");
+        });
         Sentence.of("TEXTS", "the parts are separated by one blank", () -> {
             Check.same("the report of one", Check.report(Check.lift("L041020423h0")), "ag");
             Check.same("the report of two", Check.report(Check.lift("L041020423h0g003")), "ag b@3");
